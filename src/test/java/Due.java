@@ -17,6 +17,12 @@ final class Due {
     };
 
     private int wrong = 0;
+    private String sentence = "";
+
+    /** The document's words that the next answers are asked for; they are printed with each one that is wrong. */
+    void sentence(String words) {
+        sentence = '"' + words + "\": ";
+    }
 
     void answer(String call, int want, IntSupplier made) {
         try {
@@ -76,9 +82,13 @@ final class Due {
         return signatureState(x) + frameState(x);
     }
 
-    /** The calls that were told, too, which can't be asked without an end to them. */
-    private static String wholeState(CallFrames x) {
-        return state(x) + " calls " + x.frame(0, 0, 0) + ' ' + x.clear();
+    /** The calls that were told and whether the signature is open, too, which can't be asked without a change. */
+    static String wholeState(CallFrames x) {
+        String asked = state(x) + " calls " + x.frame(0, 0, 0) + ' ' + x.clear();
+        if (x.signature(1) == 0) {
+            asked += " first " + x.add(FLOAT, 0, 0) + ' ' + x.where(0, 0);
+        }
+        return asked;
     }
 
     static String signatureState(CallFrames x) {
@@ -86,7 +96,8 @@ final class Due {
         for (int what = 0; what < 4; what++) {
             text.append(' ').append(x.signature(what));
         }
-        for (int argument = -1; argument < x.signature(1); argument++) {
+        int count = x.signature(1);
+        for (int argument = -1; argument < count; argument++) {
             text.append(argumentState(x, argument));
         }
         return text.toString();
@@ -100,14 +111,15 @@ final class Due {
         return text.toString();
     }
 
+    /** Only the first words are asked for, so that all of 60 arguments stay within the 512 calls of an object. */
     private static String argumentState(CallFrames x, int argument) {
         StringBuilder text = new StringBuilder(" [");
         try {
-            for (int what = 0; what < 3; what++) {
-                text.append(x.about(argument, what)).append(' ');
-            }
-            for (int k = 0; k < Math.min(6, x.about(argument, 2)); k++) {
-                text.append(x.where(argument, k)).append(' ');
+            int home = x.about(argument, 0);
+            int words = x.about(argument, 2);
+            text.append(home).append(' ').append(x.about(argument, 1)).append(' ').append(words);
+            for (int k = 0; k < Math.min(home < 16 ? 5 : 1, words); k++) {
+                text.append(' ').append(x.where(argument, k));
             }
         } catch (IndexOutOfBoundsException e) {
             text.append("none");
@@ -117,6 +129,6 @@ final class Due {
 
     private void tell(String call, String fault) {
         wrong++;
-        System.out.println(call + " " + fault);
+        System.out.println(sentence + call + " " + fault);
     }
 }

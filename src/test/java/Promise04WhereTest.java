@@ -7,6 +7,8 @@ public final class Promise04WhereTest {
         records(due);
         address(due);
         wrongArguments(due);
+        wrongWords(due);
+        numbersBehindTheLast(due);
         due.end();
     }
 
@@ -28,6 +30,8 @@ public final class Promise04WhereTest {
     }
 
     private static void fractions(Due due) {
+        due.sentence("32 + f one of fractions ($f12: 44; of a double k 0 its upper word: 45, k 1 its lower one: 44;"
+            + " a float: 44)");
         for (int result : new int[] {Due.WORD, Due.FLOAT, Due.DOUBLE, Due.VOID}) {
             check(due, result, false, new int[] {1}, "44");
             check(due, result, false, new int[] {2}, "45 44");
@@ -46,6 +50,7 @@ public final class Promise04WhereTest {
     }
 
     private static void noFractions(Due due) {
+        due.sentence("4 to 7 a general register");
         check(due, Due.VOID, false, new int[] {0, 1, 1, 1}, "4 5 6 7");
         check(due, Due.VOID, false, new int[] {0, 2, 2}, "4 6 7 -1 -1");
         check(due, Due.VOID, false, new int[] {3, 1, 2}, "4 5 6 7");
@@ -58,12 +63,14 @@ public final class Promise04WhereTest {
     }
 
     private static void words(Due due) {
+        due.sentence("4 to 7 a general register, .. NONE in memory");
         check(due, Due.WORD, false, new int[] {0, 0, 0, 0, 0, 0}, "4 5 6 7 -1 -1");
         check(due, Due.WORD, true, new int[] {0, 0, 0, 0, 0}, "4 5 6 7 -1");
         check(due, Due.RECORD, false, new int[] {0, 0, 0, 0}, "5 6 7 -1");
     }
 
     private static void records(Due due) {
+        due.sentence("Where word k of an argument (..) is");
         CallFrames x = new CallFrames();
         x.add(Due.WORD, 0, 0);
         x.add(Due.RECORD, 24, 8);
@@ -90,6 +97,7 @@ public final class Promise04WhereTest {
     }
 
     private static void address(Due due) {
+        due.sentence("number -1: the address of a record that is the result");
         CallFrames x = new CallFrames();
         x.begin(Due.RECORD, 64, 8, true);
         due.answer("where(-1, 0)", 4, () -> x.where(-1, 0));
@@ -102,6 +110,7 @@ public final class Promise04WhereTest {
     }
 
     private static void wrongArguments(Due due) {
+        due.sentence("IndexOutOfBoundsException: there is no such argument or word.");
         for (int edge : Due.EDGES) {
             if (edge < 0 || edge > 1) {
                 due.refusalWithoutTrace("where(" + edge + ", 0)", IndexOutOfBoundsException.class,
@@ -120,6 +129,44 @@ public final class Promise04WhereTest {
         }
         due.answer("where(59, 0)", Due.NONE, () -> x.where(59, 0));
         due.refusal("where(60, 0)", IndexOutOfBoundsException.class, () -> x.where(60, 0));
+    }
+
+    private static void wrongWords(Due due) {
+        due.sentence("IndexOutOfBoundsException: there is no such argument or word.");
+        // the kind, the size, how many words there are, where the last one is behind a word
+        int[][] rows = {{Due.WORD, 0, 1, 5}, {Due.FLOAT, 0, 1, 5}, {Due.DOUBLE, 0, 2, 7}, {Due.RECORD, 1, 1, 5},
+            {Due.RECORD, 4, 1, 5}, {Due.RECORD, 5, 2, 6}, {Due.RECORD, 65532, 16383, Due.NONE},
+            {Due.RECORD, 65533, 16384, Due.NONE}, {Due.RECORD, 65536, 16384, Due.NONE}};
+        for (int[] row : rows) {
+            CallFrames x = new CallFrames();
+            x.add(Due.WORD, 0, 0);
+            x.add(row[0], row[1], 1);
+            String what = "kind " + row[0] + " of " + row[1];
+            due.answer("where(1, " + (row[2] - 1) + "), " + what, row[3], () -> x.where(1, row[2] - 1));
+            // four times some of these wraps around to a home below 16
+            for (int k : new int[] {row[2], row[2] + 1, -1, -2, 16385, 1 << 30, (1 << 30) - 1, (1 << 30) + 1, 1 << 29,
+                -1 << 30, Integer.MAX_VALUE, Integer.MIN_VALUE, Integer.MIN_VALUE + 1}) {
+                due.refusal("where(1, " + k + "), " + what, IndexOutOfBoundsException.class, () -> x.where(1, k));
+            }
+        }
+    }
+
+    private static void numbersBehindTheLast(Due due) {
+        due.sentence("IndexOutOfBoundsException: there is no such argument or word.");
+        for (int result : new int[] {Due.VOID, Due.RECORD}) {
+            CallFrames x = new CallFrames();
+            x.begin(result, 4, 4, true);
+            for (int count = 0; count <= 60; count++) {
+                int next = count;
+                due.refusal("where(" + next + ", 0) of " + count, IndexOutOfBoundsException.class,
+                    () -> x.where(next, 0));
+                if (count < 60) {
+                    x.add(Due.WORD, 0, 0);
+                    int home = result == Due.RECORD ? 4 + 4 * count : 4 * count;
+                    due.answer("where(" + next + ", 0)", home < 16 ? 4 + home / 4 : Due.NONE, () -> x.where(next, 0));
+                }
+            }
+        }
     }
 
     private static CallFrames doubleAndFloat() {

@@ -4,6 +4,7 @@ public final class Promise05AboutTest {
         arguments(due);
         address(due);
         wrongInputs(due);
+        numbersBehindTheLast(due);
         due.end();
     }
 
@@ -14,6 +15,7 @@ public final class Promise05AboutTest {
     }
 
     private static void arguments(Due due) {
+        due.sentence("An argument's home (what 0), bytes (1: of words and floats 4), words (2).");
         CallFrames x = new CallFrames();
         x.add(Due.WORD, 100, 1);
         x.add(Due.DOUBLE, 100, 1);
@@ -36,6 +38,7 @@ public final class Promise05AboutTest {
     }
 
     private static void address(Due due) {
+        due.sentence("-1 is one, if the result is a record");
         CallFrames x = new CallFrames();
         x.begin(Due.RECORD, 64, 8, false);
         check(due, x, -1, 0, 4, 1);
@@ -49,6 +52,7 @@ public final class Promise05AboutTest {
     }
 
     private static void wrongInputs(Due due) {
+        due.sentence("IndexOutOfBoundsException: there is no such argument (..), or another what.");
         CallFrames x = new CallFrames();
         due.refusal("about(0, 0) of none", IndexOutOfBoundsException.class, () -> x.about(0, 0));
         for (int edge : Due.EDGES) {
@@ -67,6 +71,26 @@ public final class Promise05AboutTest {
         }
         check(due, x, 59, 272, 4, 1);
         due.refusal("about(60, 0)", IndexOutOfBoundsException.class, () -> x.about(60, 0));
+    }
+
+    private static void numbersBehindTheLast(Due due) {
+        due.sentence("IndexOutOfBoundsException: there is no such argument");
+        CallFrames x = new CallFrames();
+        for (int count = 0; count <= 60; count++) {
+            int next = count;
+            due.refusal("about(" + next + ", 0) of " + count, IndexOutOfBoundsException.class,
+                () -> x.about(next, 0));
+            if (count < 60) {
+                x.add(Due.DOUBLE, 0, 0);
+                check(due, x, next, 8 * next, 8, 2);
+            }
+        }
+        x.begin(Due.VOID, 0, 0, false);
+        due.refusal("about(0, 0) behind begin", IndexOutOfBoundsException.class, () -> x.about(0, 0));
+        x.add(Due.WORD, 0, 0);
+        check(due, x, 0, 0, 4, 1);
+        due.refusal("about(1, 0), one of the signature before", IndexOutOfBoundsException.class,
+            () -> x.about(1, 0));
     }
 
     private static CallFrames oneRecord() {

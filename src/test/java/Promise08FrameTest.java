@@ -7,7 +7,9 @@ public final class Promise08FrameTest {
         sizes(due);
         sizesWithCalls(due);
         eachBit(due);
+        rightLocals(due);
         wrongLocals(due);
+        severalWrong(due);
         laidOutAnew(due);
         largest(due);
         due.end();
@@ -19,6 +21,7 @@ public final class Promise08FrameTest {
     }
 
     private static void sizes(Due due) {
+        due.sentence("Lays the frame out: .. its size.");
         CallFrames x = new CallFrames();
         check(due, x, 0, 0, 0, 0);
         check(due, x, 1, 0, 0, 8);
@@ -38,6 +41,7 @@ public final class Promise08FrameTest {
     }
 
     private static void sizesWithCalls(Due due) {
+        due.sentence("Lays the frame out: .. its size.");
         CallFrames x = new CallFrames();
         x.call();
         check(due, x, 0, 0, 0, 24);
@@ -51,6 +55,8 @@ public final class Promise08FrameTest {
     }
 
     private static void eachBit(Due due) {
+        due.sentence("general registers that are saved (bits 16 to 23, 30, 31 of a number), fractions (bits 20, 22"
+            + " .. 30)");
         for (int n = 0; n < 32; n++) {
             int bit = 1 << n;
             if (n >= 16 && n <= 23 || n >= 30) {
@@ -71,7 +77,31 @@ public final class Promise08FrameTest {
         refused(due, 0, FRACTIONS, GENERAL);
     }
 
+    private static void rightLocals(Due due) {
+        due.sentence("bytes of locals (0 to 1,000,000)");
+        int[][] sizes = {{0, 0}, {1, 8}, {7, 8}, {8, 8}, {9, 16}, {999992, 999992}, {999993, 1000000},
+            {999999, 1000000}, {1000000, 1000000}};
+        for (int[] size : sizes) {
+            CallFrames x = new CallFrames();
+            check(due, x, size[0], 0, 0, size[1]);
+            check(due, x, size[0], 1 << 16, 0, size[1] + 8);
+            x.call();
+            check(due, x, size[0], 0, 0, size[1] + 24);
+        }
+    }
+
+    private static void severalWrong(Due due) {
+        due.sentence("IllegalArgumentException: another number or bit.");
+        refused(due, -1, 1, 1);
+        refused(due, 1000001, -1, -1);
+        refused(due, 0, 1 << 15, 1 << 19);
+        refused(due, 0, 1 << 24, 1 << 21);
+        refused(due, 0, 1 << 29, 1 << 31);
+        refused(due, Integer.MIN_VALUE, Integer.MAX_VALUE, Integer.MAX_VALUE);
+    }
+
     private static void wrongLocals(Due due) {
+        due.sentence("bytes of locals (0 to 1,000,000)");
         for (int locals : new int[] {Integer.MIN_VALUE, -8, -1, 1000001, 1000008, Integer.MAX_VALUE}) {
             refused(due, locals, 0, 0);
             refused(due, locals, GENERAL, FRACTIONS);
@@ -92,6 +122,7 @@ public final class Promise08FrameTest {
     }
 
     private static void laidOutAnew(Due due) {
+        due.sentence("Lays the frame out");
         CallFrames x = new CallFrames();
         x.frame(100, GENERAL, FRACTIONS);
         check(due, x, 3, 1 << 17, 0, 16);
@@ -102,6 +133,7 @@ public final class Promise08FrameTest {
     }
 
     private static void largest(Due due) {
+        due.sentence("Lays the frame out: .. its size.");
         CallFrames x = new CallFrames();
         for (int i = 0; i < 15; i++) {
             x.add(Due.RECORD, 65536, 8);

@@ -8,11 +8,16 @@ public final class Promise09PlaceTest {
         some(due);
         alignment(due);
         returnAddress(due);
+        nothingLaidOut(due);
+        laidOutAndLeft(due);
+        firstAndLastRegister(due);
         wrongInputs(due);
         due.end();
     }
 
     private static void all(Due due) {
+        due.sentence("where the locals begin (what 0, of any register), register n's (what 1) or fraction n's (what"
+            + " 2) place");
         CallFrames x = new CallFrames();
         x.call();
         x.frame(13, GENERAL, FRACTIONS);
@@ -41,6 +46,7 @@ public final class Promise09PlaceTest {
     }
 
     private static void some(Due due) {
+        due.sentence("NONE, if it isn't saved");
         CallFrames x = new CallFrames();
         x.frame(4, 1 << 17 | 1 << 23 | 1 << 30, 1 << 22 | 1 << 28);
         due.answer("place(0, 31)", 0, () -> x.place(0, 31));
@@ -57,6 +63,7 @@ public final class Promise09PlaceTest {
     }
 
     private static void alignment(Due due) {
+        due.sentence("register n's (what 1) or fraction n's (what 2) place");
         CallFrames x = new CallFrames();
         for (int locals = 0; locals <= 24; locals++) {
             int behind = (locals + 7) / 8 * 8;
@@ -69,6 +76,7 @@ public final class Promise09PlaceTest {
     }
 
     private static void returnAddress(Due due) {
+        due.sentence("register n's (what 1) .. place; NONE, if it isn't saved");
         CallFrames x = new CallFrames();
         x.frame(0, 1 << 16, 0);
         due.answer("$31 of a leaf", Due.NONE, () -> x.place(1, 31));
@@ -84,7 +92,53 @@ public final class Promise09PlaceTest {
         due.answer("no $30", Due.NONE, () -> x.place(1, 30));
     }
 
+    private static void nothingLaidOut(Due due) {
+        due.sentence("In the frame that was laid out: .. NONE, if it isn't saved.");
+        CallFrames x = new CallFrames();
+        x.add(Due.RECORD, 40, 8);
+        x.call();
+        due.answer("place(0, 0) of no frame", 0, () -> x.place(0, 0));
+        due.answer("place(1, 31) of no frame", Due.NONE, () -> x.place(1, 31));
+        due.answer("place(2, 20) of no frame", Due.NONE, () -> x.place(2, 20));
+        due.refusal("place(0, 32) of no frame", IndexOutOfBoundsException.class, () -> x.place(0, 32));
+        due.refusal("place(3, 0) of no frame", IndexOutOfBoundsException.class, () -> x.place(3, 0));
+    }
+
+    /** What comes behind frame doesn't move what was laid out, until it is laid out anew. */
+    private static void laidOutAndLeft(Due due) {
+        due.sentence("In the frame that was laid out");
+        CallFrames x = new CallFrames();
+        x.frame(5, 1 << 16, 1 << 20);
+        String before = Due.frameState(x);
+        x.add(Due.RECORD, 40, 8);
+        x.call();
+        x.begin(Due.RECORD, 8, 8, true);
+        due.refusal("a frame that is refused", IllegalArgumentException.class, () -> x.frame(-1, 0, 0));
+        due.same("the frame behind add, call, begin", before, Due.frameState(x));
+        x.frame(5, 1 << 16, 1 << 20);
+        due.answer("the locals, laid out anew", 40, () -> x.place(0, 0));
+        due.answer("$f20, laid out anew", 48, () -> x.place(2, 20));
+        due.answer("$16, laid out anew", 56, () -> x.place(1, 16));
+        due.answer("$31, laid out anew", 60, () -> x.place(1, 31));
+        x.frame(0, 0, 0);
+        due.answer("$f20, no longer saved", Due.NONE, () -> x.place(2, 20));
+        due.answer("$16, no longer saved", Due.NONE, () -> x.place(1, 16));
+    }
+
+    private static void firstAndLastRegister(Due due) {
+        due.sentence("n is not 0 to 31");
+        CallFrames x = allSaved();
+        due.answer("place(0, 0)", 0, () -> x.place(0, 0));
+        due.answer("place(0, 31)", 0, () -> x.place(0, 31));
+        due.answer("place(1, 0)", Due.NONE, () -> x.place(1, 0));
+        due.answer("place(1, 31)", 92, () -> x.place(1, 31));
+        due.answer("place(2, 0)", Due.NONE, () -> x.place(2, 0));
+        due.answer("place(2, 30)", 48, () -> x.place(2, 30));
+        due.answer("place(2, 31)", Due.NONE, () -> x.place(2, 31));
+    }
+
     private static void wrongInputs(Due due) {
+        due.sentence("IndexOutOfBoundsException: another what, or n is not 0 to 31.");
         for (int n : new int[] {Integer.MIN_VALUE, -32, -1, 32, 33, 48, 63, Integer.MAX_VALUE}) {
             for (int what = 0; what < 3; what++) {
                 int one = what;
