@@ -9,9 +9,12 @@ import java.util.TreeSet;
 public final class FaceTest {
     public static void main(String[] args) {
         Due due = new Due();
+        due.sentence("public final class CallFrames {");
         due.holds("the class is public and final",
             Modifier.isPublic(CallFrames.class.getModifiers()) && Modifier.isFinal(CallFrames.class.getModifiers()));
+        due.sentence("`NONE = -1`: None; in memory.");
         due.answer("NONE", -1, () -> CallFrames.NONE);
+        due.sentence("## The public face");
         due.same("the methods", methodsDue().toString(), methods().toString());
         due.holds("no private method bears the name of a public one", namesAreApart());
         due.same("the fields", "[public static final int CallFrames.NONE]", fields().toString());
